@@ -35,6 +35,8 @@ public final class ActsTest {
                 1, -1, -1, -1, -1);
         Check.dueAll("WHITE", Check.ofHouses(x, 1), 9, 9, 1);
         Check.dueAll("status", Check.statuses(x), 2, 0, 3, 1, 0);
+        StainStreet y = Check.street("sc2;h;h;f");
+        Check.dueAll("whiten with the last two", new int[] {y.whiten(0), y.whiten(0)}, 0, -1);
     }
 
     private static void pianos() {
@@ -49,6 +51,8 @@ public final class ActsTest {
         Check.due("PIANOS behind it", x.count(9), 0);
         Check.due("piano, too few", x.piano(0), -1);
         Check.dueAll("status", Check.statuses(x), 3, 0, 2, 1, 0);
+        StainStreet y = Check.street("sc3;h;h;f");
+        Check.dueAll("a piano for the last three", new int[] {y.piano(0), y.piano(1)}, 0, -1);
         StainStreet stays = Check.street("sd1h0;hm9;hm1;f");
         stays.piano(1);
         Check.due("it stays", stays.days(1), 0);
@@ -189,6 +193,7 @@ public final class ActsTest {
         // Seed 3 draws 9 1 2, 8 0 2, 5 2 2 of 10 3 3.
         years("sd9;hm5;hm5;hm5;f", 0, 3, 3L, new int[] {5, 5, 5}, 1, 1, 4);
         years("sd9;hm5;hm5p0;hm5;f", 0, 1, 3L, new int[] {5, 5, 5}, 2, 0, 2);
+        years("sd9;hm5;hm5p1;hm5p8;f", 0, 1, 3L, new int[] {5, 5, 5}, 2, 0, 9);
         years("sd9;hm5;hm5;hm5p9;f", 0, 1, 3L, new int[] {5, 5, 5}, 2, 2, 9);
         // Seed 1 draws 4 0 6 0 0 of 10 3 10 3 3; a day takes one of 6.
         years(flat, 5, 1, 1L, new int[] {5, 0, 0}, 2, 2, 2);
@@ -204,6 +209,12 @@ public final class ActsTest {
         StainStreet x = Check.street("sd2h0;hm5;hm5;hm5;f");
         Check.dueAll("refused", new int[] {x.years(0, 1), x.years(61, 1), x.years(-1, 1), x.years(MAX, 1)},
                 -1, -1, -1, -1);
+        Check.due("years(60, 3)", x.years(60, 3L), 60);
+        for (int i = 0; i < 40; i++) {
+            x.undo();
+        }
+        Check.due("the day", x.count(5), 20);
+        x = Check.street("sd2h0;hm5;hm5;hm5;f");
         Check.due("years(3, 3)", x.years(3, 3L), 3);
         Check.due("acts", x.count(11), 3);
         Check.due("the log", x.count(10), 1);
@@ -314,16 +325,27 @@ public final class ActsTest {
     }
 
     private static void imageOfALongLog() {
-        StainStreet x = Check.street("sd1h0;hm5;hm5;f");
+        StainStreet x = Check.street("sd1h0;hm5;hm5;fn1;fn2;f");
         x.days(60);
         x.days(40);
         x.image();
+        int[] places = new int[60];
+        int[] forms = new int[60];
+        for (int i = 0; i < 60; i++) {
+            places[i] = x.log(i, 1);
+            forms[i] = x.log(i, 2);
+        }
+        x.days(1);
+        x.move(1, 0);
+        x.move(1, 0);
         x.days(60);
         x.days(60);
         x.days(60);
         x.back();
         for (int i = 0; i < 60; i++) {
             Check.due("log(" + i + ", 0)", x.log(i, 0), 100 - i);
+            Check.due("log(" + i + ", 1)", x.log(i, 1), places[i]);
+            Check.due("log(" + i + ", 2)", x.log(i, 2), forms[i]);
         }
         x.days(50);
         for (int i = 0; i < 40; i++) {

@@ -72,7 +72,11 @@ public final class LooksTest {
             {"y:1=2&1=2|1=1?1;y:2", "1"}, {"y:1=2|1=2|1=1?1;y:2", "1"}, {"y:1=1&1=1&1=2?1;y:2", "2"},
             {"y:1=1|1=1?1;y:2", "1"}, {"y:1=2|1=2?1;y:2", "2"},
             {"y:!1=2?1;y:2", "1"}, {"y:!!1=2?1;y:2", "2"}, {"y:!1=2&1=2?1;y:2", "2"},
-            {"y:!(1=2&1=2)?1;y:2", "1"}, {"y:!(1=1)|2>1?1;y:2", "1"},
+            {"y:!(1=2&1=2)?1;y:2", "1"}, {"y:!(1=1)|2>1?1;y:2", "1"}, {"y:!1=1?1;y:2", "2"},
+            {"y:1=1&1<2&2>1?1;y:2", "1"}, {"y:1<2&1=1?1;y:2", "1"}, {"y:2>1&1<2?1;y:2", "1"},
+            {"y:1=2&(1=1)?1;y:2", "2"}, {"y:1=1|1=2|1=2?1;y:2", "1"}, {"y:1=2|1=1|1=2?1;y:2", "1"},
+            {"y:(1=2)|(1=2)&(1=1)?1;y:2", "2"}, {"y:!(!(1=1&1=1)|1=2)?1;y:2", "1"},
+            {"y:1-2-3+10", "6"}, {"y:1+2*3-4/2+1", "6"}, {"y:2*3+4*5", "26"}, {"y:2*[1+[2-[3-4]]]", "8"},
             {"y:0-1<0?1;y:2", "1"}, {"y:m+1=w+2?1;y:2", "1"}, {"y:[m]>[w]?1;y:2", "1"},
         };
         for (String[] law : laws) {
@@ -180,6 +184,12 @@ public final class LooksTest {
         Check.due("CALMEST of several", x.most(0), 1);
         x.sham(0, 6);
         Check.due("LOUDEST of several", x.most(1), 0);
+        Check.dueAll("the first of all", new int[] {Check.street("h;h;f").most(0), Check.street("h;h;f").most(1),
+            Check.street("h;h;f").most(2), Check.street("hm1w1;h;f").most(0), Check.street("hw1;h;f").most(2)},
+                0, 0, 0, 0, 0);
+        StainStreet eight = Check.street("h;h;h;h;h;h;h;hm1w9p0;f");
+        Check.dueAll("eight", new int[] {eight.most(0), eight.most(1), eight.most(2), eight.most(4), eight.most(5)},
+                7, 0, 7, 14, 128);
         StainStreet quiet = Check.street("hm0p0;hm0p0;f");
         Check.due("LOUDEST where all is 0", quiet.most(1), 0);
         Check.due("LONELY", quiet.most(5), 3);

@@ -40,6 +40,12 @@ public final class NotesTest {
         x.seen(4, 0, false);
         Check.dueAll("who by 1", all(x, 1));
         Check.due("nothing to look at", x.best(1), -1);
+        StainStreet late = Check.street(TO_AND_FRO);
+        late.seen(40, 1, true);
+        Check.dueAll("who by the fortieth day", all(late, 1), 0);
+        StainStreet eight = Check.street("sd1h8;h;h;h;h;h;h;h;h;f");
+        eight.seen(1, 0, false);
+        Check.dueAll("who of eight", all(eight, 1), 1, 2, 3, 4, 5, 6, 7);
         StainStreet y = Check.street(TO_AND_FRO);
         y.seen(2, 0, true);
         Check.dueAll("who", all(y, 1), 0);
@@ -80,6 +86,10 @@ public final class NotesTest {
         // By 5 more house 1 tells otherwise behind four days.
         Check.due("best of those that fit", x.best(5), 4);
         Check.due("without a street", new StainStreet().best(1), -1);
+        // To and fro by how far it is, for four moving days; on the fifth MIND tells.
+        StainStreet late = Check.street("sd8h0;h;h;h;ft1n1;ft1n2;ft1n3;ft1n4;ft9n4");
+        Check.law(late, "y:t=9?m;y:d");
+        Check.due("best is the fortieth day", late.best(1), 40);
         // None counts as a place: house 0 is told by one, none by two.
         StainStreet y = Check.street("sd4;hm0p1;hm0p0;f");
         Check.due("none is a place", y.best(2), 4);

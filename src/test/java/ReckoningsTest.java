@@ -51,6 +51,13 @@ public final class ReckoningsTest {
         StainStreet z = Check.street("sd9;hm9;hm1;f");
         z.days(3);
         Check.due("soonest from now", z.soonest(0), 6);
+        // To 0, then to and fro with 1; behind six changes it is the first form again and goes to 2: day 63.
+        StainStreet late = Check.street("sd9;hw0;hw1;hw2;ft9n1;fn2;fn3;fn4;fn5;fn0");
+        Check.law(late, "y:d=9?1;y:t=9?w;y:w<2?d;y:0");
+        late.days(2);
+        Check.due("soonest, 61", late.soonest(2), -1);
+        late.days(1);
+        Check.due("soonest, 60", late.soonest(2), 60);
     }
 
     private static void visits() {
@@ -120,6 +127,14 @@ public final class ReckoningsTest {
         least(x, 1, 3, -3);
         StainStreet y = Check.street("hm3;hm3;hm3;hm3;f");
         least(y, 3, 1, 1);
+        // 45 and 27: nine more and nine less are not enough.
+        StainStreet z = Check.street("hm3w9;hm3;hm0p0;f");
+        Check.law(z, "y:30-m+w*2");
+        least(z, 1, HIDDEN, HIDDEN);
+        Check.law(z, "y:31-m+w*2-w/9");
+        least(z, 1, 18, -9);
+        StainStreet eight = Check.street("hm3;hm3;hm3;hm3;hm3;hm3;hm3;hm2;f");
+        least(eight, 7, 2, 2);
     }
 
     private static void rid() {
@@ -136,6 +151,11 @@ public final class ReckoningsTest {
         x.sham(0, -4);
         Check.due("rid by more", x.rid(), 5);
         Check.due("nothing is changed", x.house(0, 4), -4);
+        StainStreet y = Check.street("sh0;hm3;hp0;f");
+        Check.law(y, "y:m<12?9");
+        Check.due("rid by nine more", y.rid(), 9);
+        Check.law(y, "y:m>0-6?9");
+        Check.due("rid by nine less", y.rid(), 9);
     }
 
     private static void white() {
@@ -144,6 +164,7 @@ public final class ReckoningsTest {
                 0, -1, -1, -1, -1, -1);
         StainStreet y = Check.street("hm3;hm3;hm3;f");
         Check.dueAll("white of several", new int[] {y.white(0), y.white(1), y.white(2)}, 0, 1, 1);
+        Check.due("white of nine", Check.street("hm9p5;hm3p1;f").white(1), 9);
         StainStreet z = Check.street("hm0p1w0;hm9p0;f");
         Check.due("white of 0", z.white(0), 1);
         Check.law(y, "y:w=4?9;y:w=9?9;y:1");
@@ -159,6 +180,9 @@ public final class ReckoningsTest {
         Check.dueAll("of three", new int[] {x.treaties(3, -1), x.treaties(3, 0)}, 0, -1);
         Check.dueAll("refused", new int[] {x.treaties(0, -1), x.treaties(4, -1), x.treaties(1, -2),
             x.treaties(MIN, 0), x.treaties(1, MAX), x.treaties(1, MIN)}, -1, -1, -1, -1, -1, -1);
+        StainStreet loud = Check.street("hm9w9p9;hm9w9p9;h;f");
+        Check.dueAll("of loud ones", new int[] {loud.treaties(1, -1), loud.treaties(2, -1), loud.treaties(2, 0),
+            loud.treaties(2, 1), loud.treaties(3, -1)}, 3, 2, 5, 6, 0);
         StainStreet two = Check.street("h;h;f");
         Check.dueAll("three of two houses", new int[] {two.treaties(3, -1), two.treaties(2, 0)}, 0, 3);
         StainStreet eight = Check.street("h;h;h;h;h;h;h;h;f");
@@ -171,6 +195,8 @@ public final class ReckoningsTest {
         Check.dueAll("game", new int[] {x.game(0, 1, 3, 3, 0), x.game(0, 1, 3, 3, 1), x.game(0, 1, 0, 6, 0),
             x.game(0, 1, 0, 6, 1), x.game(0, 1, 6, 5, 0), x.game(0, 1, 6, 5, 1)}, -9, 0, -3, -12, -12, -2);
         Check.dueAll("the other way round", new int[] {x.game(1, 0, 3, 3, 0), x.game(1, 0, 3, 3, 1)}, 0, -9);
+        Check.dueAll("game from 0 on", new int[] {x.game(0, 1, 0, 0, 0), x.game(0, 1, 0, 0, 1),
+            x.game(0, 1, 6, 6, 0), x.game(0, 1, 6, 6, 1)}, -12, -3, -12, -3);
         x.sham(0, 9);
         Check.due("their SHAMS now are left out", x.game(0, 1, 3, 4, 1), -10);
         Check.due("nothing is changed", x.house(0, 4), 9);
@@ -195,6 +221,11 @@ public final class ReckoningsTest {
         Check.law(y, "y:m=3?9;y:1");
         Check.dueAll("four rests", new int[] {y.rests(1, 2, -1), y.rests(1, 2, 0), y.rests(1, 2, 1), y.rests(1, 2, 2),
             y.rests(1, 2, 3), y.rests(1, 2, 4)}, 4, 22, 24, 42, 44, -1);
+        StainStreet z = Check.street("hw5;hm3;hm3;f");
+        Check.law(z, "y:w=5?5;y:m<1?1;y:9");
+        Check.dueAll("a rest at the low end", new int[] {z.rests(1, 2, -1), z.rests(1, 2, 0)}, 1, 0);
+        Check.law(z, "y:w=5?5;y:m>5?1;y:9");
+        Check.dueAll("a rest at the high end", new int[] {z.rests(1, 2, -1), z.rests(1, 2, 0)}, 1, 66);
         Check.dueAll("refused", new int[] {y.rests(1, 1, -1), y.rests(3, 1, -1), y.rests(1, -1, -1),
             y.rests(1, 2, -2), y.rests(1, 2, MAX), y.rests(MIN, MAX, 0)}, -1, -1, -1, -1, -1, -1);
     }
@@ -230,6 +261,7 @@ public final class ReckoningsTest {
         Check.dueAll("refused", new int[] {x.shares(3, 1), x.shares(-1, 1), x.shares(0, -1), x.shares(0, 1000),
             x.shares(MAX, MAX)}, -1, -1, -1, -1, -1);
         Check.due("all 0", Check.street("hp0;hp0;f").shares(0, 100), 0);
+        Check.due("of eight", Check.street("h;h;h;h;h;h;h;h;f").shares(7, 100), 12);
         StainStreet y = Check.street("h;hp0;f");
         Check.law(y, "y:99");
         Check.due("one has all", y.shares(0, 999), 999);

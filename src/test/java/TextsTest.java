@@ -32,6 +32,11 @@ public final class TextsTest {
         Check.due("feed of ten", x.feed(0x20202020, 0x20202020, 0, 0, 0x20200000), 240);
         Check.due("feed of one more", x.feed(0, 0, 0, 0, 1), -1);
         Check.due("feed of none more", x.feed(0, 0, 0, 0, 0), 240);
+        for (int word = 0; word < 5; word++) {
+            int[] w = new int[5];
+            w[word] = 0x7f0000;
+            Check.due("feed of one more in word " + word, x.feed(w[0], w[1], w[2], w[3], w[4]), -1);
+        }
         Check.due("count(3)", x.count(3), 240);
     }
 
@@ -51,6 +56,10 @@ public final class TextsTest {
         Check.due("text(0) keeps the first five", x.text(0), 2);
         Check.due("end(0) of an empty tape", x.end(0), true);
         Check.due("end(1) of an empty tape", x.end(1), false);
+        Check.feed(x, "h;h      y:12     ");
+        x.end(3);
+        Check.due("what is behind the end is no more", x.fault(0), 3);
+        Check.due("what is behind the end is no more", x.fault(1), 0);
     }
 
     private static void streetFault(String text, int want) {
@@ -88,6 +97,7 @@ public final class TextsTest {
         streetFault("hm h", 3);
         streetFault("hm-1", 2);
         streetFault("hm1 2;h;f", 4);
+        streetFault("sf5;h;h;f;f;f;f;f;fn5", -1);
     }
 
     private static void streetNumbers() {
@@ -160,6 +170,9 @@ public final class TextsTest {
         lawFault("y:[]", 3);
         lawFault("y:m]", 3);
         lawFault("y:[m=1]", 4);
+        lawFault("y:[;y:m", 3);
+        lawFault("y:[m;y:m", 4);
+        lawFault("y:[m+;y:m", 5);
     }
 
     private static void lawConditions() {
@@ -189,6 +202,11 @@ public final class TextsTest {
         lawFault("y:m=!1?m", 4);
         lawFault("y:m!=1?m", 3);
         lawFault("y:m=1|(w=2&[g+1]*2>3)?m;y:1", -1);
+        lawFault("y:!?m", 3);
+        lawFault("y:(?m", 3);
+        lawFault("y:!(?m", 4);
+        lawFault("y:m=1|?m", 6);
+        lawFault("y:m>[?m", 5);
     }
 
     private static void lawNesting() {
@@ -204,6 +222,9 @@ public final class TextsTest {
         lawFault("y:(!(!(![m]=1)))?m", 8);
         lawFault("y:(!(!(!m=1)))&(!(!(!m=2)))?[[[[[[m]]]]]]", -1);
         lawFault("y:(((((([m]=1))))))?m", 8);
+        lawFault("y:m=1?[[[[[[m]]]]]]", -1);
+        lawFault("y:m=1?[[[[[[[m]]]]]]]", 12);
+        lawFault("y:m=1?m;y:[[[[[[[m", 16);
     }
 
     private static void sorts() {
@@ -246,6 +267,75 @@ public final class TextsTest {
         Check.due("MINDED is as it was", x.house(0, 6), 4);
     }
 
+    private static void lawBehindAFault() {
+        StainStreet x = Check.street("h;h;f");
+        Check.feed(x, "y:m=9?1;y:5;y:6+7+8+x");
+        Check.due("fault(1)", x.fault(1), 20);
+        Check.due("text(1)", x.text(1), -1);
+        x.end(0);
+        Check.law(x, "y:7");
+        Check.due("MINDED by the law alone", x.house(0, 6), 7);
+        Check.law(x, "y:m=9?1;y:m=3?8");
+        Check.due("MINDED by the second", x.house(0, 6), 8);
+        x.law(0);
+        Check.due("MINDED by the first", x.house(0, 6), 7);
+    }
+
+    private static void longLaw() {
+        StringBuilder text = new StringBuilder("y:0");
+        for (int i = 1; i < 60; i++) {
+            text.append(";y:").append(i % 10);
+        }
+        Check.due("sixty clauses fit", Check.fault(1, text.toString()), -1);
+        StringBuilder sum = new StringBuilder("y:m");
+        for (int i = 0; i < 115; i++) {
+            sum.append("+1");
+        }
+        StainStreet x = Check.street("hm1;h;f");
+        Check.law(x, sum + "-99-9");
+        Check.due("MINDED by a long sum", x.house(0, 6), 8);
+        Check.law(x, text.toString());
+        Check.due("MINDED by the first of sixty", x.house(0, 6), 0);
+        StringBuilder late = new StringBuilder();
+        for (int i = 0; i < 29; i++) {
+            late.append("y:w=9?1;");
+        }
+        Check.law(x, late + "y:7");
+        Check.due("MINDED by the last of thirty", x.house(0, 6), 7);
+        StainStreet y = Check.street("hm1;h;f");
+        Check.feed(y, "y:m-m+m-m+m-m");
+        for (int i = 0; i < 28; i++) {
+            Check.feed(y, "+[m+w+g]");
+        }
+        Check.due("count(3)", y.count(3), 237);
+        Check.due("text(1)", y.text(1), 0);
+        y.law(0);
+        Check.due("MINDED by a long sum", y.house(0, 6), 28);
+        StainStreet z = Check.street("hm1;h;f");
+        Check.law(z, "y:1=1&(1=1&(1=1&(1=1&(1=1&(1+1*[1+1*2]=3+1*0&1=1)))))&1=1?3;y:4");
+        Check.due("MINDED by a deep condition", z.house(0, 6), 4);
+        Check.law(z, "y:1=2|1=1&(1=2|1=1&(1=2|1=1&(1=2|1=1&(1=2|1=1&(1=2|1=1&1+2*3=7)))))?3;y:4");
+        Check.due("MINDED by a deep condition", z.house(0, 6), 3);
+    }
+
+    private static void everySlot() {
+        StainStreet x = Check.street("ft9n5;ft8n4;hm1w2g3p4;hm5w6g7p8;hm9w8g7p6;ft7n3;hm5w4g3p2;hm1w1g1p1;"
+                + "hm2w2g2p2;hm3w3g3p3;ft6n2;ft5n1;hm4w4g4p5;ft4n0;sd9h7f5c98");
+        Check.dueAll("MIND", Check.ofHouses(x, 0), 1, 5, 9, 5, 1, 2, 3, 4);
+        Check.dueAll("WHITE", Check.ofHouses(x, 1), 2, 6, 8, 4, 1, 2, 3, 4);
+        Check.dueAll("HANGINGS", Check.ofHouses(x, 2), 3, 7, 7, 3, 1, 2, 3, 4);
+        Check.dueAll("PEOPLE", Check.ofHouses(x, 3), 4, 8, 6, 2, 1, 2, 3, 5);
+        for (int f = 0; f < 6; f++) {
+            Check.due("SIZE of " + f, x.form(f, 0), 9 - f);
+            Check.due("behind " + f, x.form(f, 1), 5 - f);
+        }
+        Check.dueAll("rules", new int[] {x.rule(0), x.rule(1), x.rule(2), x.rule(3)}, 9, 7, 5, 98);
+        Check.dueAll("all but the first and the last", new int[] {x.count(0), x.count(1)}, 8, 6);
+        StainStreet y = Check.street("hm5;ft9n1;h;f;s");
+        Check.dueAll("the usual ones change no other", new int[] {y.house(0, 0), y.house(1, 0), y.form(0, 0),
+            y.form(1, 0)}, 5, 3, 9, 3);
+    }
+
     private static void streetAnew() {
         StainStreet x = Check.street("sd1h0;hm5;hm4;f");
         Check.law(x, "y:m");
@@ -255,11 +345,12 @@ public final class TextsTest {
         x.seen(1, 0, true);
         x.was(0, 0, true);
         x.piano(1);
+        x.sham(1, 2);
         x.image();
         Check.feed(x, "sh9");
         Check.due("text(0) with a fault", x.text(0), -1);
         Check.due("the day is as it was", x.count(5), 4);
-        Check.due("acts", x.count(11), 5);
+        Check.due("acts", x.count(11), 6);
         x.end(0);
         Check.feed(x, "hm1p3;h;h;ft5n1;f");
         Check.due("text(0)", x.text(0), 3);
@@ -295,6 +386,9 @@ public final class TextsTest {
         lawNesting();
         sorts();
         fourLaws();
+        lawBehindAFault();
+        longLaw();
+        everySlot();
         streetAnew();
         Check.end("TextsTest");
     }
