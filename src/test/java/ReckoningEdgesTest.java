@@ -230,6 +230,11 @@ public final class ReckoningEdgesTest {
         StainStreet x = Check.street("sh0;hm9p1;hp0;f");
         x.sham(0, 9);
         Check.due("18", x.rid(), 18);
+        StainStreet more = Check.street("sh0;hm3;hp0;f");
+        Check.law(more, "y:m<12?9");
+        Check.due("9 more", more.rid(), 9);
+        Check.law(more, "y:m<13?9");
+        Check.due("10 more would be", more.rid(), -1);
         Check.by("28: NONE: by none, it is in none, no STREET");
         Twins.refused("rid() in none", () -> Check.street("sh8;hm9;h;f"), y -> y.rid(), -1, -1);
         Twins.refused("rid() by none", () -> Check.street("sh1;hp0;hm9p2;f"), y -> y.rid(), -1, -1);
@@ -263,6 +268,7 @@ public final class ReckoningEdgesTest {
         Check.dueAll("of three", new int[] {x.treaties(3, -1), x.treaties(3, 0), x.treaties(3, 1)}, 1, 14, -1);
         StainStreet two = Check.street("h;h;f");
         Check.dueAll("all, it goes to none", new int[] {two.treaties(2, -1), two.treaties(2, 0)}, 1, 3);
+        Check.dueAll("the lowest set", new int[] {two.treaties(1, -1), two.treaties(1, 0), two.treaties(1, 1)}, 2, 1, 2);
         Check.dueAll("three of two", new int[] {two.treaties(3, -1), two.treaties(3, 0)}, 0, -1);
         StainStreet none = Check.street("hm9w9p9;hp0;f");
         Check.dueAll("none of two", new int[] {none.treaties(2, -1), none.treaties(2, 0)}, 0, -1);
@@ -315,6 +321,10 @@ public final class ReckoningEdgesTest {
         Check.law(four, "y:m=3?9;y:1");
         Check.dueAll("four", new int[] {four.rests(1, 2, -1), four.rests(1, 2, 0), four.rests(1, 2, 1),
             four.rests(1, 2, 2), four.rests(1, 2, 3), four.rests(1, 2, 4)}, 4, 22, 24, 42, 44, -1);
+        StainStreet ends = Check.street("hw5;hm3;hm3;f");
+        Check.law(ends, "y:w=5?5;y:m<1|m>5?1;y:9");
+        Check.dueAll("at the ends, 0 and 6", new int[] {ends.rests(1, 2, -1), ends.rests(1, 2, 0),
+            ends.rests(1, 2, 1), ends.rests(1, 2, 2), ends.rests(1, 2, 3)}, 4, 0, 6, 60, 66);
         Check.by("32: NONE: no such one, no such HOUSES, alike");
         for (int house : NO_HOUSES) {
             refused("rests(" + house + ", 1, -1)", y -> y.rests(house, 1, -1), -1);

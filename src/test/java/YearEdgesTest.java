@@ -277,6 +277,28 @@ public final class YearEdgesTest {
         Check.due("image() at DAY 0", Check.street("h;h;f").image(), 0);
     }
 
+    private static void imageOfAFullLog() {
+        Check.by("An IMAGE keeps the LOG (the latest 60)");
+        StainStreet x = Check.street("sd1h0;hm5;hm5;fn1;fn2;f");
+        x.days(60);
+        x.days(1);
+        x.image();
+        int[] rows = new int[180];
+        for (int i = 0; i < 180; i++) {
+            rows[i] = x.log(i / 3, i % 3);
+        }
+        x.move(1, 0);
+        x.move(1, 0);
+        x.days(60);
+        x.days(60);
+        x.days(60);
+        Check.due("back()", x.back(), 61);
+        for (int i = 0; i < 180; i++) {
+            Check.due("log(" + i / 3 + ", " + i % 3 + ")", x.log(i / 3, i % 3), rows[i]);
+        }
+        Check.dueAll("how long, none older", new int[] {x.count(10), x.log(60, 0)}, 60, HIDDEN);
+    }
+
     private static void imageLeaves() {
         Check.by("BACK: what an IMAGE does not keep is as it is");
         StainStreet x = pictured();
@@ -364,6 +386,7 @@ public final class YearEdgesTest {
         whoMoves();
         oneActEach();
         imageKeeps();
+        imageOfAFullLog();
         imageLeaves();
         noImage();
         counts();
