@@ -321,6 +321,9 @@ public final class ReckoningEdgesTest {
         Check.law(four, "y:m=3?9;y:1");
         Check.dueAll("four", new int[] {four.rests(1, 2, -1), four.rests(1, 2, 0), four.rests(1, 2, 1),
             four.rests(1, 2, 2), four.rests(1, 2, 3), four.rests(1, 2, 4)}, 4, 22, 24, 42, 44, -1);
+        StainStreet anyway = Check.street("hm3;hm9w9p9;hm3;f");
+        Check.dueAll("it comes anyway", new int[] {anyway.rests(1, 0, -1), anyway.rests(1, 0, 0),
+            anyway.rests(1, 0, 1), anyway.rests(0, 1, -1), anyway.rests(2, 1, 0)}, 1, 33, -1, 1, 33);
         StainStreet ends = Check.street("hw5;hm3;hm3;f");
         Check.law(ends, "y:w=5?5;y:m<1|m>5?1;y:9");
         Check.dueAll("at the ends, 0 and 6", new int[] {ends.rests(1, 2, -1), ends.rests(1, 2, 0),
