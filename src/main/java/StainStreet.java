@@ -260,6 +260,16 @@ public final class StainStreet {
         return Math.min(now.logged, LOG_SHOWN);
     }
 
+    private int entry(int i) {
+        return i >= 0 && i < TABLE_SIZE ? table[i] : 0;
+    }
+
+    private void enter(int i, int value) {
+        if (i >= 0 && i < TABLE_SIZE) {
+            table[i] = value;
+        }
+    }
+
     // ---- acts
 
     private int refused(int why, int answer) {
@@ -542,21 +552,21 @@ public final class StainStreet {
     // How much a house is minded hangs on no SHAM but its own, so one row for each house tells all.
     private void fillShamTable() {
         apart.copyFrom(now);
-        for (int h = 0; h < told.houses; h++) {
+        for (int h = 0; h < told.houseCount(); h++) {
             for (int s = 0; s < SHAMS; s++) {
                 apart.shams[h] = s - NINE;
-                table[h * SHAMS + s] = apart.minded(h, book.holding());
+                enter(h * SHAMS + s, apart.minded(h, book.holding()));
             }
         }
     }
 
     private int shammingFor(int house, int sham) {
-        int minded = table[house * SHAMS + sham + NINE];
+        int minded = entry(house * SHAMS + sham + NINE);
         if (minded == 0) {
             return NONE;
         }
         int sum = Math.abs(sham - now.shams[house]);
-        for (int h = 0; h < told.houses; h++) {
+        for (int h = 0; h < told.houseCount(); h++) {
             if (h != house) {
                 // Of several it goes to the lowest, so those ahead must be minded less.
                 int steps = stepsToAtMost(h, h < house ? minded - 1 : minded);
@@ -573,7 +583,7 @@ public final class StainStreet {
         int fewest = NONE;
         for (int s = 0; s < SHAMS; s++) {
             int steps = Math.abs(s - NINE - now.shams[house]);
-            if (table[house * SHAMS + s] <= minded && (fewest == NONE || steps < fewest)) {
+            if (entry(house * SHAMS + s) <= minded && (fewest == NONE || steps < fewest)) {
                 fewest = steps;
             }
         }
@@ -619,7 +629,7 @@ public final class StainStreet {
         }
         fillTreatyWorths();
         int found = 0;
-        for (int set = 1; set < 1 << told.houses; set++) {
+        for (int set = 1; set < 1 << told.houseCount(); set++) {
             if (Integer.bitCount(set) == k && (bitOf(goalOfMixed(set)) & set) == 0) {
                 if (found == i) {
                     return set;
@@ -632,7 +642,7 @@ public final class StainStreet {
 
     private void fillTreatyWorths() {
         apart.copyFrom(now);
-        for (int h = 0; h < told.houses; h++) {
+        for (int h = 0; h < told.houseCount(); h++) {
             apart.shams[h] = -NINE;
             worths[h] = now.minded(h, book.holding());
             otherWorths[h] = apart.minded(h, book.holding());
@@ -643,7 +653,7 @@ public final class StainStreet {
     private int goalOfMixed(int set) {
         int goal = NONE;
         int top = 0;
-        for (int h = 0; h < told.houses; h++) {
+        for (int h = 0; h < told.houseCount(); h++) {
             int minded = (set >> h & 1) == 0 ? worths[h] : otherWorths[h];
             if (minded > top) {
                 top = minded;
@@ -698,15 +708,15 @@ public final class StainStreet {
         apart.copyFrom(now);
         for (int x = 0; x < GAME_SHAMS; x++) {
             for (int y = 0; y < GAME_SHAMS; y++) {
-                table[x * GAME_SHAMS + y] = goalOfGame(one, other, x, y);
+                enter(x * GAME_SHAMS + y, goalOfGame(one, other, x, y));
             }
         }
     }
 
     private boolean isBestForOne(int one, int x, int y) {
-        int has = gain(table[x * GAME_SHAMS + y] == one, x);
+        int has = gain(entry(x * GAME_SHAMS + y) == one, x);
         for (int u = 0; u < GAME_SHAMS; u++) {
-            if (gain(table[u * GAME_SHAMS + y] == one, u) > has) {
+            if (gain(entry(u * GAME_SHAMS + y) == one, u) > has) {
                 return false;
             }
         }
@@ -714,9 +724,9 @@ public final class StainStreet {
     }
 
     private boolean isBestForOther(int other, int x, int y) {
-        int has = gain(table[x * GAME_SHAMS + y] == other, y);
+        int has = gain(entry(x * GAME_SHAMS + y) == other, y);
         for (int u = 0; u < GAME_SHAMS; u++) {
-            if (gain(table[x * GAME_SHAMS + u] == other, u) > has) {
+            if (gain(entry(x * GAME_SHAMS + u) == other, u) > has) {
                 return false;
             }
         }
@@ -739,10 +749,10 @@ public final class StainStreet {
         fillWalks(g);
         int fitting = fitting();
         int found = 0;
-        for (int c = 0; c <= told.houses; c++) {
+        for (int c = 0; c <= told.houseCount(); c++) {
             if ((fitting >> c & 1) != 0) {
                 if (found == i) {
-                    return c == told.houses ? NOBODY : c;
+                    return c == told.houseCount() ? NOBODY : c;
                 }
                 found++;
             }
@@ -773,21 +783,21 @@ public final class StainStreet {
 
     /** A row for each house that may have minded more, and one behind them for none of these. */
     private void fillWalks(int more) {
-        for (int c = 0; c <= told.houses; c++) {
+        for (int c = 0; c <= told.houseCount(); c++) {
             apart.begin(told);
-            if (c < told.houses) {
+            if (c < told.houseCount()) {
                 apart.mindMore(c, more);
             }
             for (int n = 1; n <= MOST_SEEN_DAYS; n++) {
                 apart.passDay(book.holding());
-                table[c * WALK_ROW + n] = apart.place;
+                enter(c * WALK_ROW + n, apart.place);
             }
         }
     }
 
     private int fitting() {
         int fitting = 0;
-        for (int c = 0; c <= told.houses; c++) {
+        for (int c = 0; c <= told.houseCount(); c++) {
             if (fitsSeen(c)) {
                 fitting |= 1 << c;
             }
@@ -796,8 +806,8 @@ public final class StainStreet {
     }
 
     private boolean fitsSeen(int c) {
-        for (int i = 0; i < seen.size; i++) {
-            boolean there = table[c * WALK_ROW + seen.whens[i]] == seen.whats[i];
+        for (int i = 0; i < seen.size && i < MOST_NOTES; i++) {
+            boolean there = entry(c * WALK_ROW + seen.whens[i]) == seen.whats[i];
             if (there != seen.truths[i]) {
                 return false;
             }
@@ -807,10 +817,10 @@ public final class StainStreet {
 
     private int mostAgreeing(int n, int fitting) {
         int most = 0;
-        for (int place = NONE; place < told.houses; place++) {
+        for (int place = NONE; place < told.houseCount(); place++) {
             int telling = 0;
-            for (int c = 0; c <= told.houses; c++) {
-                if ((fitting >> c & 1) != 0 && table[c * WALK_ROW + n] == place) {
+            for (int c = 0; c <= told.houseCount(); c++) {
+                if ((fitting >> c & 1) != 0 && entry(c * WALK_ROW + n) == place) {
                     telling++;
                 }
             }
@@ -864,7 +874,7 @@ public final class StainStreet {
     }
 
     private boolean fitsWas(int form) {
-        for (int i = 0; i < was.size; i++) {
+        for (int i = 0; i < was.size && i < MOST_NOTES; i++) {
             boolean there = told.changed(form, was.whens[i]) == was.whats[i];
             if (there != was.truths[i]) {
                 return false;
@@ -882,9 +892,9 @@ public final class StainStreet {
         fillOddsWorths();
         fillParts(chance);
         int parts = 0;
-        for (int set = 0; set < 1 << told.houses; set++) {
+        for (int set = 0; set < 1 << told.houseCount(); set++) {
             if (goalOfMixed(set) == house) {
-                parts += table[set];
+                parts += entry(set);
             }
         }
         return parts;
@@ -892,7 +902,7 @@ public final class StainStreet {
 
     private void fillOddsWorths() {
         apart.copyFrom(now);
-        for (int h = 0; h < told.houses; h++) {
+        for (int h = 0; h < told.houseCount(); h++) {
             apart.minds[h] = Math.min(NINE, now.minds[h] + 1);
             worths[h] = now.minded(h, book.holding());
             otherWorths[h] = apart.minded(h, book.holding());
@@ -901,12 +911,13 @@ public final class StainStreet {
 
     /** The parts for each set of houses in which MIND is one more. */
     private void fillParts(int chance) {
-        table[0] = ALL_PARTS;
-        for (int h = 0; h < told.houses; h++) {
+        enter(0, ALL_PARTS);
+        for (int h = 0; h < told.houseCount(); h++) {
             for (int set = 0; set < 1 << h; set++) {
-                int more = (int) ((long) table[set] * chance / 100);
-                table[set | 1 << h] = more;
-                table[set] -= more;
+                int part = entry(set);
+                int more = (int) ((long) part * chance / 100);
+                enter(set | 1 << h, more);
+                enter(set, part - more);
             }
         }
     }
@@ -916,7 +927,7 @@ public final class StainStreet {
             return NONE;
         }
         int all = 0;
-        for (int h = 0; h < told.houses; h++) {
+        for (int h = 0; h < told.houseCount(); h++) {
             all += now.minded(h, book.holding());
         }
         return all == 0 ? 0 : c * now.minded(house, book.holding()) / all;
@@ -947,7 +958,7 @@ public final class StainStreet {
 
     private int calmest() {
         int calmest = 0;
-        for (int h = 1; h < told.houses; h++) {
+        for (int h = 1; h < told.houseCount(); h++) {
             if (now.minds[h] + now.shams[h] < now.minds[calmest] + now.shams[calmest]) {
                 calmest = h;
             }
@@ -957,7 +968,7 @@ public final class StainStreet {
 
     private int whitest() {
         int whitest = 0;
-        for (int h = 1; h < told.houses; h++) {
+        for (int h = 1; h < told.houseCount(); h++) {
             if (now.whites[h] > now.whites[whitest]) {
                 whitest = h;
             }
@@ -980,7 +991,7 @@ public final class StainStreet {
 
     private int crowd() {
         int crowd = 0;
-        for (int h = 0; h < told.houses; h++) {
+        for (int h = 0; h < told.houseCount(); h++) {
             crowd += now.people[h];
         }
         return crowd;
@@ -988,7 +999,7 @@ public final class StainStreet {
 
     private int lonely() {
         int lonely = 0;
-        for (int h = 0; h < told.houses; h++) {
+        for (int h = 0; h < told.houseCount(); h++) {
             if (now.people[h] == 0) {
                 lonely |= 1 << h;
             }
@@ -1069,6 +1080,11 @@ public final class StainStreet {
         private int forms;
         private boolean hasRules;
         private final int[] slots = new int[ALL_SLOTS];
+
+        /** The rows for houses have no more places, so no loop over houses goes further. */
+        int houseCount() {
+            return Math.min(houses, MOST_HOUSES);
+        }
 
         void clear() {
             houses = 0;
@@ -1291,7 +1307,7 @@ public final class StainStreet {
 
         private int reckon(int from, int to) {
             int top = 0;
-            for (int at = from; at < to && at < MOST_BYTES; at++) {
+            for (int at = Math.max(0, from); at < to && at < MOST_BYTES; at++) {
                 int code = codes[at];
                 if (code >= -LETTERS) {
                     if (top < MOST_STACKED) {
@@ -1615,8 +1631,10 @@ public final class StainStreet {
         }
 
         void mindMore(int house, int more) {
-            toldMinds[house] = Math.min(NINE, toldMinds[house] + more);
-            minds[house] = toldMinds[house];
+            if (house >= 0 && house < MOST_HOUSES) {
+                toldMinds[house] = Math.min(NINE, toldMinds[house] + more);
+                minds[house] = toldMinds[house];
+            }
         }
 
         boolean hasPiano(int house) {
@@ -1624,7 +1642,7 @@ public final class StainStreet {
         }
 
         int minded(int house, Law law) {
-            if (people[house] == 0 || hasPiano(house)) {
+            if (house < 0 || house >= MOST_HOUSES || people[house] == 0 || hasPiano(house)) {
                 return 0;
             }
             int mind = minds[house] + shams[house];
@@ -1642,7 +1660,7 @@ public final class StainStreet {
         int goal(Law law) {
             int goal = NONE;
             int top = 0;
-            for (int h = 0; h < street.houses; h++) {
+            for (int h = 0; h < street.houseCount(); h++) {
                 int minded = minded(h, law);
                 if (minded > top) {
                     top = minded;
@@ -1655,7 +1673,7 @@ public final class StainStreet {
         /** Whether it was a moving day. */
         boolean passDay(Law law) {
             day++;
-            for (int h = 0; h < street.houses; h++) {
+            for (int h = 0; h < street.houseCount(); h++) {
                 int drawnTo = h == place ? 0 : toldMinds[h];
                 if (minds[h] < drawnTo) {
                     minds[h]++;

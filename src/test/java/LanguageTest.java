@@ -1,3 +1,4 @@
+import com.sun.source.tree.ArrayAccessTree;
 import com.sun.source.tree.AssertTree;
 import com.sun.source.tree.BinaryTree;
 import com.sun.source.tree.BlockTree;
@@ -276,6 +277,16 @@ public final class LanguageTest extends TreePathScanner<Void, Void> {
     private void bounded(Tree loop, ExpressionTree condition) {
         boolean compares = condition != null && condition.toString().matches("(?s).*[<>].*");
         holds("9, a loop's end in its own lines", loop, compares);
+        holds("7, a loop over houses within the rows: houseCount()", loop,
+                condition == null || !condition.toString().matches("(?s).*\\.houses\\b.*"));
+    }
+
+    @Override
+    public Void visitArrayAccess(ArrayAccessTree tree, Void none) {
+        boolean isTable = tree.getExpression().toString().equals("table");
+        boolean isGuarded = method != null && Set.of("entry", "enter").contains(method.getSimpleName().toString());
+        holds("7, the table by entry and enter, which look at the index", tree, !isTable || isGuarded);
+        return super.visitArrayAccess(tree, none);
     }
 
     @Override
